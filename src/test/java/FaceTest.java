@@ -1,0 +1,88 @@
+import java.io.IOException;
+import java.lang.reflect.Constructor;
+import java.lang.reflect.Field;
+import java.lang.reflect.Method;
+import java.lang.reflect.Modifier;
+import java.nio.file.Files;
+import java.nio.file.Path;
+import java.util.Set;
+import java.util.TreeSet;
+import java.util.regex.Matcher;
+import java.util.regex.Pattern;
+
+/** The face that the document tells, and what LANGUAGE.md lets a reader see at a glance. */
+public final class FaceTest {
+    private static final Check CHECK = new Check("the face");
+    private static final Set<String> FACE = Set.of(
+        "public static final int CodeImages.NONE",
+        "public static final int CodeImages.FULL",
+        "public CodeImages()",
+        "public int CodeImages.feed(int,int,int,int,int)",
+        "public int CodeImages.end(int)",
+        "public int CodeImages.count(int)",
+        "public int CodeImages.classOf(int,int,int)",
+        "public boolean CodeImages.isA(int,int)",
+        "public int CodeImages.method(int,int,int)",
+        "public int CodeImages.handler(int,int,int)",
+        "public int CodeImages.instruction(int,int,int)",
+        "public int CodeImages.thrown(int)");
+
+    public static void main(String[] args) throws IOException {
+        CHECK.due("modifiers of the class", CodeImages.class.getModifiers(), Modifier.PUBLIC | Modifier.FINAL);
+        face();
+        inside();
+        source(Files.readString(Path.of("src/main/java/CodeImages.java")));
+        CHECK.end();
+    }
+
+    private static void face() {
+        Set<String> seen = new TreeSet<>();
+        for (Field field : CodeImages.class.getDeclaredFields()) {
+            addSeen(seen, field.getModifiers(), field.toString());
+        }
+        for (Constructor<?> constructor : CodeImages.class.getDeclaredConstructors()) {
+            addSeen(seen, constructor.getModifiers(), constructor.toString());
+        }
+        for (Method method : CodeImages.class.getDeclaredMethods()) {
+            addSeen(seen, method.getModifiers(), method.toString());
+        }
+        for (String member : seen) {
+            CHECK.due("in the document: " + member, FACE.contains(member), true);
+        }
+        CHECK.due("members", seen.size(), FACE.size());
+    }
+
+    private static void addSeen(Set<String> seen, int modifiers, String member) {
+        if (!Modifier.isPrivate(modifiers)) {
+            seen.add(member);
+        }
+    }
+
+    private static void inside() {
+        Class<?>[] classes = CodeImages.class.getDeclaredClasses();
+        CHECK.due("at most twelve classes", classes.length <= 12, true);
+        for (Class<?> one : classes) {
+            CHECK.due(one + " is static", Modifier.isStatic(one.getModifiers()), true);
+            CHECK.due(one + " is not public", Modifier.isPublic(one.getModifiers()), false);
+            for (Method method : one.getDeclaredMethods()) {
+                CHECK.due(method + " takes at most seven", method.getParameterCount() <= 7, true);
+            }
+        }
+    }
+
+    private static void source(String text) {
+        String code = text.replaceAll("(?s)/\\*.*?\\*/", " ").replaceAll("//[^\n]*", " ");
+        for (String word : new String[] {
+            "throw", "try", "catch", "synchronized", "assert", "package", "transient", "volatile", "native",
+        }) {
+            CHECK.due("no " + word, Pattern.compile("\\b" + word + "\\b").matcher(code).find(), false);
+        }
+        CHECK.due("no lambda", code.contains("->"), false);
+        CHECK.due("no method reference", code.contains("::"), false);
+        Matcher imports = Pattern.compile("import ([^;]*);").matcher(code);
+        while (imports.find()) {
+            CHECK.due("import " + imports.group(1),
+                Set.of("java.util.Arrays", "java.util.ArrayList", "java.util.List").contains(imports.group(1)), true);
+        }
+    }
+}
