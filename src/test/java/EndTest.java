@@ -12,6 +12,7 @@ public final class EndTest {
         methodsFirst();
         codeFirst();
         limitsOfParts();
+        lengthsOfCode();
         slotsSecond();
         codeSecond();
         handlersSecond();
@@ -236,6 +237,20 @@ public final class EndTest {
         CHECK.due("handler(0, 7, 1)", x.handler(0, 7, 1), 1000);
     }
 
+    /** A method of as many RETURNs as its code has bytes, about the edges of both bytes of the length. */
+    private static void lengthsOfCode() {
+        for (int length : new int[] {1, 2, 127, 128, 255, 256, 257, 511, 512, 767, 768, 999, 1000}) {
+            ImageBytes image = new ImageBytes();
+            image.put(1, 255, 0, 0).put(0, 0, 0, 0, 0).put(1).put(255, 0, 255, 0, 0).pair(length);
+            for (int i = 0; i < length; i++) {
+                image.put(37);
+            }
+            CodeImages x = new CodeImages();
+            CHECK.due("code of " + length + ": end", ImageBytes.load(x, image.put(0, 0).bytes()), length);
+            CHECK.due("thrown(4) of one class", x.thrown(4), 0);
+        }
+    }
+
     private static void slotsSecond() {
         wrong("slotm00", 6);
         wrong("slotm00", 255);
@@ -301,6 +316,8 @@ public final class EndTest {
         secondOperand(36, 1, 6);
         secondOperand(36, 1, 255);
         right("i36", 35, 0);
+        right("i27", 27, 1, 0);
+        wrongAt(Samples.full().at("i0") + 1, "i0", 25, 0, 1, 4, 4);
         right("i25", 25, 0, 76);
     }
 
@@ -344,6 +361,8 @@ public final class EndTest {
     private static void whichIsFirst() {
         twice("slotm00", 9, "i1", 42, "i1");
         twice("slotm00", 200, "first", 9, "first");
+        twice("slotm00", 255, "first", 9, "first");
+        twice("slotm00", 0, "first", 9, "first");
         twice("slotm00", 9, "slotm10", 9, "slotm00");
         twice("slotm11", 9, "m4place", 9, "slotm11");
         twice("h0from", 9, "h1class", 9, "h1class");

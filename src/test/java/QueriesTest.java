@@ -135,6 +135,9 @@ public final class QueriesTest {
             CHECK.due("instruction(0, 0, " + far + ")", x.instruction(0, 0, far), -1);
         }
         CHECK.due("instruction(6, 0, 0)", x.instruction(6, 0, 0), -1);
+        for (int place = -150; place < 150; place++) {
+            CHECK.due("instruction(2, " + place + ", 0)", x.instruction(2, place, 0), place == 0 ? 37 : -1);
+        }
         farPlace();
     }
 
