@@ -26,11 +26,24 @@ public final class FaceTest {
         "public int CodeImages.handler(int,int,int)",
         "public int CodeImages.instruction(int,int,int)",
         "public int CodeImages.thrown(int)");
+    private static final Set<String> FACE_METHODS = Set.of(
+        "feed", "end", "count", "classOf", "isA", "method", "handler", "instruction", "thrown");
+    /** The types that a static field can have: rule 5. */
+    private static final Set<Class<?>> CONSTANTS = Set.of(
+        int.class, long.class, boolean.class, char.class, String.class,
+        int[].class, long[].class, char[].class, byte[].class);
+    /** What the class may call of the library's static functions: rule 4. */
+    private static final Set<String> LIBRARY = Set.of(
+        "Arrays.fill", "Arrays.copyOf", "Arrays.copyOfRange", "System.arraycopy", "Math.max", "Math.min");
 
     public static void main(String[] args) throws IOException {
         CHECK.due("modifiers of the class", CodeImages.class.getModifiers(), Modifier.PUBLIC | Modifier.FINAL);
         face();
         inside();
+        fields(CodeImages.class);
+        for (Class<?> one : CodeImages.class.getDeclaredClasses()) {
+            fields(one);
+        }
         source(Files.readString(Path.of("src/main/java/CodeImages.java")));
         CHECK.end();
     }
@@ -66,8 +79,22 @@ public final class FaceTest {
             CHECK.due(one + " is not public", Modifier.isPublic(one.getModifiers()), false);
             for (Method method : one.getDeclaredMethods()) {
                 CHECK.due(method + " takes at most seven", method.getParameterCount() <= 7, true);
+                CHECK.due(method + " bears a public name", FACE_METHODS.contains(method.getName()), false);
             }
         }
+    }
+
+    private static void fields(Class<?> one) {
+        int own = 0;
+        for (Field field : one.getDeclaredFields()) {
+            if (Modifier.isStatic(field.getModifiers())) {
+                CHECK.due(field + " is final", Modifier.isFinal(field.getModifiers()), true);
+                CHECK.due(field + " is a constant", CONSTANTS.contains(field.getType()), true);
+            } else {
+                own++;
+            }
+        }
+        CHECK.due(one + " has at most twenty fields", own <= 20, true);
     }
 
     private static void source(String text) {
@@ -79,6 +106,11 @@ public final class FaceTest {
         }
         CHECK.due("no lambda", code.contains("->"), false);
         CHECK.due("no method reference", code.contains("::"), false);
+        CHECK.due("no text", code.contains("\""), false);
+        Matcher calls = Pattern.compile("\\b(?:Arrays|System|Math|Integer|Long|List)\\.\\w+").matcher(code);
+        while (calls.find()) {
+            CHECK.due("library: " + calls.group(), LIBRARY.contains(calls.group()), true);
+        }
         Matcher imports = Pattern.compile("import ([^;]*);").matcher(code);
         while (imports.find()) {
             CHECK.due("import " + imports.group(1),

@@ -277,8 +277,56 @@ final class Oracle {
         }
     }
 
+    /** What the calls answer of an image, which may be null: none. */
+    static int count(Oracle image, int what) {
+        int[] facts = image == null ? new int[] {0, 0, 0, -1}
+            : new int[] {image.kinds.size(), image.routines.size(), image.instructions(), image.first};
+        return what >= 0 && what < facts.length ? facts[what] : -1;
+    }
+
+    static int classFact(Oracle image, int c, int what, int k) {
+        if (image == null || c < 0 || c >= image.kinds.size()) {
+            return -1;
+        }
+        Kind kind = image.kinds.get(c);
+        int[] facts = {kind.upper, kind.fields.size(), item(kind.fields, k), kind.slots.getOrDefault(k, -1)};
+        return what >= 0 && what < facts.length ? facts[what] : -1;
+    }
+
+    static boolean isA(Oracle image, int c, int above) {
+        if (image == null || c < 0 || c >= image.kinds.size()) {
+            return false;
+        }
+        return c == above || isA(image, image.kinds.get(c).upper, above);
+    }
+
+    static int fault(Oracle image, int k) {
+        return image == null ? -1 : item(image.faults, k);
+    }
+
+    private static Routine routine(Oracle image, int m) {
+        return image == null || m < 0 || m >= image.routines.size() ? null : image.routines.get(m);
+    }
+
+    static int methodFact(Oracle image, int m, int what, int k) {
+        Routine routine = routine(image, m);
+        return routine == null ? -1 : fact(routine, what, k);
+    }
+
+    static int handlerFact(Oracle image, int m, int k, int what) {
+        Routine routine = routine(image, m);
+        boolean is = routine != null && k >= 0 && k < routine.handlers.size() && what >= 0 && what < 4;
+        return is ? routine.handlers.get(k)[what] : -1;
+    }
+
+    static int instructionFact(Oracle image, int m, int place, int what) {
+        Routine routine = routine(image, m);
+        Instruction one = routine == null ? null : routine.code.get(place);
+        return one == null ? -1 : fact(one, what);
+    }
+
     /** What method answers of a routine, for each what; k is in its range or not. */
-    static int fact(Routine routine, int what, int k) {
+    private static int fact(Routine routine, int what, int k) {
         List<Integer> places = new ArrayList<>(routine.code.keySet());
         int[] facts = {
             routine.owner, routine.parameters.size(), item(routine.parameters, k), routine.gives, routine.locals,
@@ -288,13 +336,13 @@ final class Oracle {
     }
 
     /** What instruction answers of one, for each what. */
-    static int fact(Instruction one, int what) {
+    private static int fact(Instruction one, int what) {
         int[] operands = Arrays.copyOf(one.operands.stream().mapToInt(Integer::intValue).toArray(), 2);
         int[] facts = {one.code, operands[0], operands[1], one.end};
         return what >= 0 && what < facts.length ? facts[what] : -1;
     }
 
-    static int item(List<Integer> list, int k) {
+    private static int item(List<Integer> list, int k) {
         return k >= 0 && k < list.size() ? list.get(k) : -1;
     }
 }

@@ -4,112 +4,111 @@ public final class QueriesTest {
     private static final int[] FAR = {Integer.MIN_VALUE, -256, -2, -1, 256, 65536, 1 << 28, Integer.MAX_VALUE};
 
     public static void main(String[] args) {
-        CodeImages x = new CodeImages();
-        ImageBytes.load(x, Samples.full().bytes());
-        count(x);
-        classOf(x);
-        isA(x);
-        method(x);
-        handler(x);
-        instruction(x);
-        thrown(x);
+        Loaded full = new Loaded(Samples.full().bytes());
+        count(full);
+        classOf(full);
+        isA(full);
+        method(full);
+        handler(full);
+        instruction(full);
+        thrown(full);
         CHECK.end();
     }
 
-    private static void count(CodeImages x) {
-        CHECK.due("count(0)", x.count(0), 3);
-        CHECK.due("count(1)", x.count(1), 6);
-        CHECK.due("count(2)", x.count(2), Samples.CODE.length + 6);
-        CHECK.due("count(3)", x.count(3), 0);
-        CHECK.due("count(4)", x.count(4), -1);
+    private static void count(Loaded full) {
+        CHECK.due("count(0)", full.x().count(0), 3);
+        CHECK.due("count(1)", full.x().count(1), 6);
+        CHECK.due("count(2)", full.x().count(2), Samples.CODE.length + 6);
+        CHECK.due("count(3)", full.x().count(3), 0);
+        CHECK.due("count(4)", full.x().count(4), -1);
         for (int far : FAR) {
-            CHECK.due("count(" + far + ")", x.count(far), -1);
+            CHECK.due("count(" + far + ")", full.x().count(far), -1);
             CHECK.due("count(" + far + ") without an image", new CodeImages().count(far), -1);
         }
     }
 
-    private static void classOf(CodeImages x) {
-        row("upper classes", new int[] {-1, 0, -1, -1}, c -> x.classOf(c, 0, 99));
-        row("fields", new int[] {2, 4, 0, -1}, c -> x.classOf(c, 1, -99));
-        row("types of class 0", new int[] {0, 64, -1}, k -> x.classOf(0, 2, k));
-        row("types of class 1", new int[] {0, 64, 1, 67, -1}, k -> x.classOf(1, 2, k));
-        row("types of class 2", new int[] {-1}, k -> x.classOf(2, 2, k));
+    private static void classOf(Loaded full) {
+        row("upper classes", new int[] {-1, 0, -1, -1}, c -> full.x().classOf(c, 0, 99));
+        row("fields", new int[] {2, 4, 0, -1}, c -> full.x().classOf(c, 1, -99));
+        row("types of class 0", new int[] {0, 64, -1}, k -> full.x().classOf(0, 2, k));
+        row("types of class 1", new int[] {0, 64, 1, 67, -1}, k -> full.x().classOf(1, 2, k));
+        row("types of class 2", new int[] {-1}, k -> full.x().classOf(2, 2, k));
         int no = -1;
         row("slots of class 0", new int[] {1, no, no, no, no, no, no, no, no, no, no, no, no, no, no, 2, no},
-            k -> x.classOf(0, 3, k));
+            k -> full.x().classOf(0, 3, k));
         row("slots of class 1", new int[] {3, no, no, no, 4, no, no, no, no, no, no, no, no, no, no, 2, no},
-            k -> x.classOf(1, 3, k));
-        row("slots of class 2", new int[17], k -> x.classOf(2, 3, k) + 1);
+            k -> full.x().classOf(1, 3, k));
+        row("slots of class 2", new int[17], k -> full.x().classOf(2, 3, k) + 1);
         for (int far : FAR) {
             for (int what = 0; what < 4; what++) {
-                CHECK.due("classOf(" + far + ", " + what + ", 0)", x.classOf(far, what, 0), -1);
+                CHECK.due("classOf(" + far + ", " + what + ", 0)", full.x().classOf(far, what, 0), -1);
             }
-            CHECK.due("classOf(1, 2, " + far + ")", x.classOf(1, 2, far), -1);
-            CHECK.due("classOf(1, 3, " + far + ")", x.classOf(1, 3, far), -1);
-            CHECK.due("classOf(1, " + far + ", 0)", x.classOf(1, far, 0), -1);
+            CHECK.due("classOf(1, 2, " + far + ")", full.x().classOf(1, 2, far), -1);
+            CHECK.due("classOf(1, 3, " + far + ")", full.x().classOf(1, 3, far), -1);
+            CHECK.due("classOf(1, " + far + ", 0)", full.x().classOf(1, far, 0), -1);
         }
-        CHECK.due("classOf(1, 4, 0)", x.classOf(1, 4, 0), -1);
+        CHECK.due("classOf(1, 4, 0)", full.x().classOf(1, 4, 0), -1);
     }
 
-    private static void isA(CodeImages x) {
+    private static void isA(Loaded full) {
         int[][] due = {{1, 0, 0, 0}, {1, 1, 0, 0}, {0, 0, 1, 0}, {0, 0, 0, 0}};
         for (int c = 0; c < 4; c++) {
             for (int above = 0; above < 4; above++) {
-                CHECK.due("isA(" + c + ", " + above + ")", x.isA(c, above), due[c][above] == 1);
+                CHECK.due("isA(" + c + ", " + above + ")", full.x().isA(c, above), due[c][above] == 1);
             }
         }
         for (int far : FAR) {
-            CHECK.due("isA(" + far + ", " + far + ")", x.isA(far, far), false);
-            CHECK.due("isA(0, " + far + ")", x.isA(0, far), false);
-            CHECK.due("isA(" + far + ", 0)", x.isA(far, 0), false);
+            CHECK.due("isA(" + far + ", " + far + ")", full.x().isA(far, far), false);
+            CHECK.due("isA(0, " + far + ")", full.x().isA(0, far), false);
+            CHECK.due("isA(" + far + ", 0)", full.x().isA(far, 0), false);
         }
-        CHECK.due("isA(0, 255)", x.isA(0, 255), false);
+        CHECK.due("isA(0, 255)", full.x().isA(0, 255), false);
     }
 
-    private static void method(CodeImages x) {
-        row("owners", new int[] {-1, 0, 0, 1, 1, -1, -1}, m -> x.method(m, 0, 99));
-        row("parameters", new int[] {0, 3, 1, 3, 2, 7, -1}, m -> x.method(m, 1, -99));
-        row("parameters of 0", new int[] {-1}, k -> x.method(0, 2, k));
-        row("parameters of 1", new int[] {1, 0, 64, -1}, k -> x.method(1, 2, k));
-        row("parameters of 2", new int[] {1, -1}, k -> x.method(2, 2, k));
-        row("parameters of 4", new int[] {2, 1, -1}, k -> x.method(4, 2, k));
-        row("parameters of 5", new int[] {0, 1, 2, 3, 64, 65, 67, -1, -1}, k -> x.method(5, 2, k));
-        row("given types", new int[] {-1, 0, -1, 0, 66, -1, -1}, m -> x.method(m, 3, 0));
-        row("locals", new int[] {3, 3, 1, 4, 2, 12, -1}, m -> x.method(m, 4, 0));
-        row("places of the stack", new int[] {9, 9, 0, 1, 2, 0, -1}, m -> x.method(m, 5, 0));
-        row("bytes of code", new int[] {77, 1, 1, 2, 3, 1, -1}, m -> x.method(m, 6, 0));
-        row("instructions", new int[] {43, 1, 1, 2, 1, 1, -1}, m -> x.method(m, 7, 0));
+    private static void method(Loaded full) {
+        row("owners", new int[] {-1, 0, 0, 1, 1, -1, -1}, m -> full.x().method(m, 0, 99));
+        row("parameters", new int[] {0, 3, 1, 3, 2, 7, -1}, m -> full.x().method(m, 1, -99));
+        row("parameters of 0", new int[] {-1}, k -> full.x().method(0, 2, k));
+        row("parameters of 1", new int[] {1, 0, 64, -1}, k -> full.x().method(1, 2, k));
+        row("parameters of 2", new int[] {1, -1}, k -> full.x().method(2, 2, k));
+        row("parameters of 4", new int[] {2, 1, -1}, k -> full.x().method(4, 2, k));
+        row("parameters of 5", new int[] {0, 1, 2, 3, 64, 65, 67, -1, -1}, k -> full.x().method(5, 2, k));
+        row("given types", new int[] {-1, 0, -1, 0, 66, -1, -1}, m -> full.x().method(m, 3, 0));
+        row("locals", new int[] {3, 3, 1, 4, 2, 12, -1}, m -> full.x().method(m, 4, 0));
+        row("places of the stack", new int[] {9, 9, 0, 1, 2, 0, -1}, m -> full.x().method(m, 5, 0));
+        row("bytes of code", new int[] {77, 1, 1, 2, 3, 1, -1}, m -> full.x().method(m, 6, 0));
+        row("instructions", new int[] {43, 1, 1, 2, 1, 1, -1}, m -> full.x().method(m, 7, 0));
         for (int k = 0; k < Samples.CODE.length; k++) {
-            CHECK.due("method(0, 8, " + k + ")", x.method(0, 8, k), Samples.placeOf(k));
+            CHECK.due("method(0, 8, " + k + ")", full.x().method(0, 8, k), Samples.placeOf(k));
         }
-        CHECK.due("method(0, 8, 43)", x.method(0, 8, 43), -1);
-        row("instructions of 3", new int[] {0, 1, -1}, k -> x.method(3, 8, k));
-        row("handlers", new int[] {2, 0, 0, 0, 1, 0, -1}, m -> x.method(m, 9, 0));
+        CHECK.due("method(0, 8, 43)", full.x().method(0, 8, 43), -1);
+        row("instructions of 3", new int[] {0, 1, -1}, k -> full.x().method(3, 8, k));
+        row("handlers", new int[] {2, 0, 0, 0, 1, 0, -1}, m -> full.x().method(m, 9, 0));
         for (int far : FAR) {
             for (int what = 0; what < 10; what++) {
-                CHECK.due("method(" + far + ", " + what + ", 0)", x.method(far, what, 0), -1);
+                CHECK.due("method(" + far + ", " + what + ", 0)", full.x().method(far, what, 0), -1);
             }
-            CHECK.due("method(5, 2, " + far + ")", x.method(5, 2, far), -1);
-            CHECK.due("method(0, 8, " + far + ")", x.method(0, 8, far), -1);
-            CHECK.due("method(0, " + far + ", 0)", x.method(0, far, 0), -1);
+            CHECK.due("method(5, 2, " + far + ")", full.x().method(5, 2, far), -1);
+            CHECK.due("method(0, 8, " + far + ")", full.x().method(0, 8, far), -1);
+            CHECK.due("method(0, " + far + ", 0)", full.x().method(0, far, 0), -1);
         }
-        CHECK.due("method(0, 10, 0)", x.method(0, 10, 0), -1);
+        CHECK.due("method(0, 10, 0)", full.x().method(0, 10, 0), -1);
     }
 
-    private static void handler(CodeImages x) {
-        row("handler 0 of 0", new int[] {0, 77, 2, 5, -1}, what -> x.handler(0, 0, what));
-        row("handler 1 of 0", new int[] {5, 6, 0, 0, -1}, what -> x.handler(0, 1, what));
-        row("handler 2 of 0", new int[] {-1, -1, -1, -1, -1}, what -> x.handler(0, 2, what));
-        row("handler 0 of 1", new int[] {-1, -1, -1, -1, -1}, what -> x.handler(1, 0, what));
-        row("handler 0 of 4", new int[] {0, 3, 0, 0, -1}, what -> x.handler(4, 0, what));
+    private static void handler(Loaded full) {
+        row("handler 0 of 0", new int[] {0, 77, 2, 5, -1}, what -> full.x().handler(0, 0, what));
+        row("handler 1 of 0", new int[] {5, 6, 0, 0, -1}, what -> full.x().handler(0, 1, what));
+        row("handler 2 of 0", new int[] {-1, -1, -1, -1, -1}, what -> full.x().handler(0, 2, what));
+        row("handler 0 of 1", new int[] {-1, -1, -1, -1, -1}, what -> full.x().handler(1, 0, what));
+        row("handler 0 of 4", new int[] {0, 3, 0, 0, -1}, what -> full.x().handler(4, 0, what));
         for (int far : FAR) {
-            CHECK.due("handler(" + far + ", 0, 0)", x.handler(far, 0, 0), -1);
-            CHECK.due("handler(0, " + far + ", 0)", x.handler(0, far, 0), -1);
-            CHECK.due("handler(0, 0, " + far + ")", x.handler(0, 0, far), -1);
+            CHECK.due("handler(" + far + ", 0, 0)", full.x().handler(far, 0, 0), -1);
+            CHECK.due("handler(0, " + far + ", 0)", full.x().handler(0, far, 0), -1);
+            CHECK.due("handler(0, 0, " + far + ")", full.x().handler(0, 0, far), -1);
         }
     }
 
-    private static void instruction(CodeImages x) {
+    private static void instruction(Loaded full) {
         int[][] operands = {
             {0x80000001, 0}, {0, 0}, {0, 0}, {2, 0}, {0, 0}, {0, 0}, {0, 0},
             {0, 0}, {0, 0}, {0, 0}, {0, 0}, {0, 0}, {0, 0}, {0, 0}, {0, 0}, {0, 0}, {0, 0}, {0, 0}, {0, 0},
@@ -121,22 +120,22 @@ public final class QueriesTest {
             int place = Samples.placeOf(i);
             row("instruction " + i, new int[] {
                 Samples.CODE[i][0], operands[i][0], operands[i][1], Samples.placeOf(i + 1), -1,
-            }, what -> x.instruction(0, place, what));
+            }, what -> full.x().instruction(0, place, what));
             for (int inside = place + 1; inside < Samples.placeOf(i + 1); inside++) {
                 int none = inside;
-                row("within instruction " + i, new int[] {-1, -1, -1, -1}, what -> x.instruction(0, none, what));
+                row("within instruction " + i, new int[] {-1, -1, -1, -1}, what -> full.x().instruction(0, none, what));
             }
         }
-        row("behind the code", new int[] {-1, -1, -1, -1}, what -> x.instruction(0, 77, what));
-        row("GOTO of 4", new int[] {25, 0, 0, 3, -1}, what -> x.instruction(4, 0, what));
+        row("behind the code", new int[] {-1, -1, -1, -1}, what -> full.x().instruction(0, 77, what));
+        row("GOTO of 4", new int[] {25, 0, 0, 3, -1}, what -> full.x().instruction(4, 0, what));
         for (int far : FAR) {
-            CHECK.due("instruction(" + far + ", 0, 0)", x.instruction(far, 0, 0), -1);
-            CHECK.due("instruction(0, " + far + ", 0)", x.instruction(0, far, 0), -1);
-            CHECK.due("instruction(0, 0, " + far + ")", x.instruction(0, 0, far), -1);
+            CHECK.due("instruction(" + far + ", 0, 0)", full.x().instruction(far, 0, 0), -1);
+            CHECK.due("instruction(0, " + far + ", 0)", full.x().instruction(0, far, 0), -1);
+            CHECK.due("instruction(0, 0, " + far + ")", full.x().instruction(0, 0, far), -1);
         }
-        CHECK.due("instruction(6, 0, 0)", x.instruction(6, 0, 0), -1);
+        CHECK.due("instruction(6, 0, 0)", full.x().instruction(6, 0, 0), -1);
         for (int place = -150; place < 150; place++) {
-            CHECK.due("instruction(2, " + place + ", 0)", x.instruction(2, place, 0), place == 0 ? 37 : -1);
+            CHECK.due("instruction(2, " + place + ", 0)", full.x().instruction(2, place, 0), place == 0 ? 37 : -1);
         }
         farPlace();
     }
@@ -155,10 +154,10 @@ public final class QueriesTest {
         row("its handler", new int[] {258, 900, 0, 514, -1}, what -> x.handler(0, 0, what));
     }
 
-    private static void thrown(CodeImages x) {
-        row("thrown", new int[] {2, 2, 0, 1, 0, -1}, x::thrown);
+    private static void thrown(Loaded full) {
+        row("thrown", new int[] {2, 2, 0, 1, 0, -1}, k -> full.x().thrown(k));
         for (int far : FAR) {
-            CHECK.due("thrown(" + far + ")", x.thrown(far), -1);
+            CHECK.due("thrown(" + far + ")", full.x().thrown(far), -1);
         }
     }
 
