@@ -272,6 +272,7 @@ public final class WrongSecondTest {
         return plan;
     }
 
+    /** "places of code at which no instruction of it begins": a handler's from, the end being none, too. */
     private static void handlersFrom() {
         for (int routine : new int[] {0, 8}) {
             for (int k = 0; k < 2; k++) {
@@ -304,7 +305,7 @@ public final class WrongSecondTest {
         JUDGE.wrong("to 1001 of 1000", longest, "to 0 0");
     }
 
-    /** Of a handler's place the end is none. */
+    /** "places of code at which no instruction of it begins": a handler's place, of which the end is none, too. */
     private static void handlersPlace() {
         for (int routine : new int[] {0, 8}) {
             for (int k = 0; k < 2; k++) {
