@@ -20,6 +20,14 @@ final class Check {
         due(call, got ? 1 : 0, want ? 1 : 0);
     }
 
+    void due(String call, String got, String want) {
+        calls++;
+        if (!got.equals(want)) {
+            wrong++;
+            System.out.println(test + ": " + call + " answered " + got + ", due is " + want);
+        }
+    }
+
     /** Ends the test, with exit code 1 if an answer was wrong. */
     void end() {
         System.out.println(test + ": " + calls + " answers, " + wrong + " wrong");

@@ -5,6 +5,7 @@ import java.lang.reflect.Method;
 import java.lang.reflect.Modifier;
 import java.nio.file.Files;
 import java.nio.file.Path;
+import java.util.List;
 import java.util.Set;
 import java.util.TreeSet;
 import java.util.regex.Matcher;
@@ -45,6 +46,7 @@ public final class FaceTest {
             fields(one);
         }
         source(Files.readString(Path.of("src/main/java/CodeImages.java")));
+        lengths(Files.readAllLines(Path.of("src/main/java/CodeImages.java")));
         CHECK.end();
     }
 
@@ -58,6 +60,8 @@ public final class FaceTest {
         }
         for (Method method : CodeImages.class.getDeclaredMethods()) {
             addSeen(seen, method.getModifiers(), method.toString());
+            CHECK.due(method + " is private with a public name",
+                Modifier.isPrivate(method.getModifiers()) && FACE_METHODS.contains(method.getName()), false);
         }
         for (String member : seen) {
             CHECK.due("in the document: " + member, FACE.contains(member), true);
@@ -107,6 +111,7 @@ public final class FaceTest {
         CHECK.due("no lambda", code.contains("->"), false);
         CHECK.due("no method reference", code.contains("::"), false);
         CHECK.due("no text", code.contains("\""), false);
+        loops(code);
         Matcher calls = Pattern.compile("\\b(?:Arrays|System|Math|Integer|Long|List)\\.\\w+").matcher(code);
         while (calls.find()) {
             CHECK.due("library: " + calls.group(), LIBRARY.contains(calls.group()), true);
@@ -115,6 +120,35 @@ public final class FaceTest {
         while (imports.find()) {
             CHECK.due("import " + imports.group(1),
                 Set.of("java.util.Arrays", "java.util.ArrayList", "java.util.List").contains(imports.group(1)), true);
+        }
+    }
+
+    /** Rule 9: each loop counts up to a bound that stands in its own line. */
+    private static void loops(String code) {
+        CHECK.due("no while", Pattern.compile("\\b(while|do)\\b").matcher(code).find(), false);
+        Matcher loops = Pattern.compile("\\bfor\\b[^\\n]*").matcher(code);
+        while (loops.find()) {
+            CHECK.due("counts: " + loops.group(),
+                loops.group().matches("for \\(int (\\w+) = [01]; \\1 < [^;]*; \\1\\+\\+\\) \\{"), true);
+        }
+    }
+
+    /** Rules 11 and 12: methods stay short, and none of them makes an object but the constructor. */
+    private static void lengths(List<String> lines) {
+        String head = "";
+        int start = 0;
+        for (int i = 0; i < lines.size(); i++) {
+            String line = lines.get(i);
+            if (line.matches("( {4}| {8})\\w[^=]*\\) \\{")) {
+                head = line.trim();
+                start = i;
+            } else if (line.matches("( {4}| {8})\\}")) {
+                CHECK.due(head + " has at most sixty lines", head.isEmpty() || i - start < 60, true);
+                head = "";
+            }
+            if (line.contains("new ") && !head.isEmpty()) {
+                CHECK.due("made in a constructor: " + line, head, "public CodeImages() {");
+            }
         }
     }
 }
